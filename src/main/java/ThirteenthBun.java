@@ -196,7 +196,7 @@ public final class ThirteenthBun {
         if (!isFrom0To(n, NIGHTS)) {
             return BAD;
         }
-        return tryNow().goRest(n);
+        return freshTrial().goRest(n);
     }
 
     public int when(int k) {
@@ -206,7 +206,7 @@ public final class ThirteenthBun {
         if (now.isCalled(k)) {
             return NONE;
         }
-        Village rest = tryNow();
+        Village rest = freshTrial();
         for (int i = 0; i < NIGHTS && !rest.isOver(); i++) {
             rest.goBy(BY_REST);
             if (rest.isCalled(k)) {
@@ -228,7 +228,7 @@ public final class ThirteenthBun {
         int most = -1;
         int first = 0;
         for (int v = 0; v <= mostOf(what); v++) {
-            Village rest = tryNow();
+            Village rest = freshTrial();
             rest.put(k, what, v);
             int worth = rest.goRest(NIGHTS);
             if (worth > most) {
@@ -245,7 +245,7 @@ public final class ThirteenthBun {
         if (!isFrom0To(v, MOST_TRAY)) {
             return BAD;
         }
-        Village rest = tryNow();
+        Village rest = freshTrial();
         for (int i = 0; i < NIGHTS && !rest.isOver(); i++) {
             rest.goBy(BY_REST);
             if (rest.tray >= v) {
@@ -259,7 +259,7 @@ public final class ThirteenthBun {
         if (!isFrom0To(what, 1)) {
             return BAD;
         }
-        Village rest = tryNow();
+        Village rest = freshTrial();
         int bareNights = 0;
         for (int i = 0; i < NIGHTS && !rest.isOver(); i++) {
             int called = rest.called;
@@ -332,7 +332,7 @@ public final class ThirteenthBun {
         if (!isFrom0To(n, MOST_ACTS)) {
             return BAD;
         }
-        plans.lookAll(tryNow(), n, 0);
+        plans.lookAll(freshTrial(), n, 0);
         return plans.most;
     }
 
@@ -340,7 +340,7 @@ public final class ThirteenthBun {
         if (!isFrom0To(n, MOST_ACTS) || !isFrom0To(i, MOST_ACTS - 1)) {
             return BAD;
         }
-        plans.lookAll(tryNow(), n, 0);
+        plans.lookAll(freshTrial(), n, 0);
         return i < plans.length ? plans.first[i] : NONE;
     }
 
@@ -348,7 +348,7 @@ public final class ThirteenthBun {
         if (!isFrom0To(n, MOST_ACTS)) {
             return BAD;
         }
-        plans.lookAll(tryNow(), n, 0);
+        plans.lookAll(freshTrial(), n, 0);
         return plans.bestCount;
     }
 
@@ -356,7 +356,7 @@ public final class ThirteenthBun {
         if (!isFrom0To(n, MOST_ACTS) || !isFrom0To(houses, now.all())) {
             return BAD;
         }
-        plans.lookAll(tryNow(), n, houses);
+        plans.lookAll(freshTrial(), n, houses);
         return plans.fewest <= MOST_ACTS ? plans.fewest : NONE;
     }
 
@@ -364,7 +364,7 @@ public final class ThirteenthBun {
         if (!isFrom0To(n, MOST_ACTS) || !isFrom0To(houses, now.all())) {
             return BAD;
         }
-        plans.lookAll(tryNow(), n, 0);
+        plans.lookAll(freshTrial(), n, 0);
         return leastOf(houses & ~plans.reached);
     }
 
@@ -374,7 +374,7 @@ public final class ThirteenthBun {
         if (n < 1 || n > MOST_ACTS) {
             return BAD;
         }
-        return plans.playOut(tryNow(), n);
+        return plans.playOut(freshTrial(), n);
     }
 
     public int play(int n) {
@@ -384,7 +384,7 @@ public final class ThirteenthBun {
         if (now.isOver()) {
             return NONE;
         }
-        plans.playOut(tryNow(), n);
+        plans.playOut(freshTrial(), n);
         return plans.opening;
     }
 
@@ -443,7 +443,7 @@ public final class ThirteenthBun {
         int z = now.z;
         int hits = 0;
         for (int i = 0; i < n; i++) {
-            Village chance = tryNow();
+            Village chance = freshTrial();
             chance.z = z;
             int worth = 0;
             for (int j = 0; j < NIGHTS && !chance.isOver(); j++) {
@@ -461,8 +461,8 @@ public final class ThirteenthBun {
         if (!isFrom0To(n, MOST_ACTS)) {
             return BAD;
         }
-        plans.lookAll(tryNow(), n, 0);
-        Village proof = tryNow();
+        plans.lookAll(freshTrial(), n, 0);
+        Village proof = freshTrial();
         rowCount = plans.length;
         for (int k = 0; k < rowCount && !proof.isOver(); k++) {
             rows[k * ROW_PARTS] = plans.first[k];
@@ -490,7 +490,7 @@ public final class ThirteenthBun {
     }
 
     public int judge() {
-        Village proof = tryNow();
+        Village proof = freshTrial();
         for (int k = 0; k < rowCount; k++) {
             int told = rows[k * ROW_PARTS];
             if (proof.isOver() || !proof.isAct(told)) {
@@ -588,7 +588,7 @@ public final class ThirteenthBun {
         if (refused != 0) {
             return refused;
         }
-        Village would = tryNow();
+        Village would = freshTrial();
         int together = 0;
         for (int j = 0; j < n; j++) {
             if (!hasItem(sheet, i + j)) {
@@ -711,7 +711,7 @@ public final class ThirteenthBun {
 
     // ---- what several of these need
 
-    private Village tryNow() {
+    private Village freshTrial() {
         trial.become(now);
         return trial;
     }
