@@ -7,7 +7,8 @@ public final class ThirteenthBun {
     private static final int NO_ROW = -9, NOTHING = -11, OUTSIDE = -12, OTHER_SORT = -13, BELOW_ZERO = -14;
     private static final int PARTED = -15;
 
-    private static final int HOUSES = 6, KINDS = 6, LANES = 6, NIGHTS = 16, BY_REST = -1;
+    private static final int HOUSES = 6, LANES = 6, NIGHTS = 16, BY_REST = -1;
+    private static final int ANY_HOUSE = 0, BRIDE = 1, SAD = 2, TROUBLE = 3, FARM = 4, LOVELL = 5, HOUSE_ASKS = 12;
     private static final int MOST_RANK = 60, MOST_GRIEF = 9, MOST_BUNS = 9, MOST_RAIN = 9, MOST_TRAY = 99;
     private static final int MOST_LAMPS = 9, MOST_DRY = 14, MOST_DUSK = 15, MOST_WORTH = 999, MOST_TIMES = 40;
     private static final int FIRST_TRAY = 26;
@@ -16,7 +17,8 @@ public final class ThirteenthBun {
     private static final int KIND = 0, RANK = 1, GRIEF = 2, LANE = 3, BUNS = 4, CALLED = 5;
     private static final int DRAWS = 6, ASKS = 7, WILL = 8, SERVED = 9;
 
-    private static final int GIVE = 0, HOLD = 1, SEND = 2;
+    // What a RULE tells; 1 is hold, which does nothing.
+    private static final int GIVE = 0, SEND = 2;
     private static final int MOST_RULES = 8, MOST_BYTES = 200, MOST_OPEN = 3, FACTS = 5, FAULTS = -100;
     private static final int MOST_REPORTS = 6, MOST_ACTS = 4, MOST_BODIES = 30;
     private static final int ROW_PARTS = 3;
@@ -26,10 +28,10 @@ public final class ThirteenthBun {
     private static final int SHELVES = 4, ON_HOUSE = 0, ON_ROW = 1, ON_NOTHING = 2, AS_ROW = 10;
 
     private final House[] kinds = {new House(), new Bride(), new Sad(), new Trouble(), new Farm(), new Lovell()};
-    private final Village now = new Village(kinds);
+    private final Village now = new Village();
     // What is asked must change nothing, so nights that are only asked about go by here.
-    private final Village trial = new Village(kinds);
-    private final Village kept = new Village(kinds);
+    private final Village trial = new Village();
+    private final Village kept = new Village();
     private boolean isKept;
 
     private final RuleText tape = new RuleText();
@@ -52,8 +54,8 @@ public final class ThirteenthBun {
     // ---- the village, houses
 
     public int house(int kind, int rank, int grief, int lane) {
-        boolean isKind = kind >= 1 && kind < KINDS;
-        if (!isKind || !isFrom0To(rank, MOST_RANK) || !isFrom0To(grief, MOST_GRIEF) || !isFrom0To(lane, LANES - 1)) {
+        if (!isKind(kind) || !isFrom0To(rank, MOST_RANK) || !isFrom0To(grief, MOST_GRIEF)
+                || !isFrom0To(lane, LANES - 1)) {
             return BAD;
         }
         if (now.houses >= HOUSES) {
@@ -85,7 +87,7 @@ public final class ThirteenthBun {
     }
 
     public int remake(int k, int kind) {
-        if (!now.has(k) || kind < 1 || kind >= KINDS) {
+        if (!now.has(k) || !isKind(kind)) {
             return BAD;
         }
         int was = now.kind[k];
@@ -409,7 +411,7 @@ public final class ThirteenthBun {
         if (!isFrom0To(what, 3)) {
             return BAD;
         }
-        now.reports.lookAll(kinds, now.dusk);
+        now.reports.lookAll(now.dusk);
         if (what == 0) {
             return now.reports.fits;
         }
@@ -417,7 +419,7 @@ public final class ThirteenthBun {
     }
 
     public int liar() {
-        now.reports.lookAll(kinds, now.dusk);
+        now.reports.lookAll(now.dusk);
         return now.reports.fits > 0 ? NONE : leastOf(now.reports.alone);
     }
 
@@ -619,7 +621,7 @@ public final class ThirteenthBun {
 
     public int taken(int shelf, int as) {
         boolean isRow = as >= AS_ROW && as < AS_ROW + SORTS;
-        if (!isShelf(shelf) || !(isRow || isFrom0To(as, KINDS - 1))) {
+        if (!isShelf(shelf) || !(isRow || isFrom0To(as, LOVELL))) {
             return BAD;
         }
         if (shelfHolds[shelf] == ON_ROW) {
@@ -742,8 +744,35 @@ public final class ThirteenthBun {
         return NONE;
     }
 
+    /** Whether a HOUSE can be of that KIND. */
+    private static boolean isKind(int kind) {
+        return kind >= BRIDE && kind <= LOVELL;
+    }
+
     private static boolean isUnder(int kind, int above) {
-        return kind == above || above == 0 || (kind == 3 && above == 2) || (kind == 5 && above == 4);
+        boolean isNext = (kind == TROUBLE && above == SAD) || (kind == LOVELL && above == FARM);
+        return kind == above || above == ANY_HOUSE || isNext;
+    }
+
+    private static int asks(int kind, int number, int night) {
+        switch (kind) {
+            case BRIDE: return HOUSE_ASKS + 1;
+            case SAD: return HOUSE_ASKS / 2;
+            case TROUBLE: return HOUSE_ASKS / 2 + number;
+            case FARM: return 2 * HOUSE_ASKS;
+            default: return 2 * HOUSE_ASKS - (night % 2 == 0 ? 9 : 0);
+        }
+    }
+
+    /** What a HOUSE DRAWS where there are no LAMPS. */
+    private static int draws(int kind, int grief, int rain, int night) {
+        switch (kind) {
+            case BRIDE: return rain;
+            case SAD: return grief + rain + grief;
+            case TROUBLE: return grief + rain + grief + 3;
+            case FARM: return Math.max(grief, rain);
+            default: return night % 3 == 0 ? 0 : Math.max(grief, rain);
+        }
     }
 
     private static int rainBehind(int rain, int dusk) {
@@ -762,7 +791,6 @@ public final class ThirteenthBun {
 
     /** All that keep() keeps. */
     private static final class Village {
-        final House[] kinds;
         final int[] kind = new int[HOUSES];
         final int[] rank = new int[HOUSES];
         final int[] grief = new int[HOUSES];
@@ -782,8 +810,7 @@ public final class ThirteenthBun {
         int score;
         int z = 1;
 
-        Village(House[] kinds) {
-            this.kinds = kinds;
+        Village() {
             Arrays.fill(dusk, 4);
         }
 
@@ -824,9 +851,6 @@ public final class ThirteenthBun {
             rank[k] = newRank;
             grief[k] = newGrief;
             lane[k] = newLane;
-            // again() may have left what a HOUSE of this number once had.
-            buns[k] = 0;
-            called &= ~(1 << k);
             return k;
         }
 
@@ -884,15 +908,15 @@ public final class ThirteenthBun {
         }
 
         int asked(int k) {
-            return kinds[kind[k]].asks(k, night);
+            return asks(kind[k], k, night);
         }
 
         int drawn(int k) {
-            return Math.max(0, kinds[kind[k]].draws(grief[k], rain, night) - lamps[lane[k]]);
+            return Math.max(0, draws(kind[k], grief[k], rain, night) - lamps[lane[k]]);
         }
 
         boolean isServed(int k) {
-            return tray >= kinds[kind[k]].asks(k, night) && tray >= rank[k];
+            return tray >= asked(k) && tray >= rank[k];
         }
 
         int will(int k) {
@@ -1202,7 +1226,7 @@ public final class ThirteenthBun {
         }
 
         private void readRule() {
-            int kind = pass(WORD, WORD + KINDS - 1) - WORD;
+            int kind = pass(WORD, WORD + LOVELL) - WORD;
             if (isNext(WORD_IF, WORD_IF)) {
                 at++;
                 readAny(0);
@@ -1288,13 +1312,13 @@ public final class ThirteenthBun {
             return count - 1;
         }
 
-        void lookAll(House[] kinds, int[] dusk) {
+        void lookAll(int[] dusk) {
             fits = 0;
             alone = 0;
-            for (int kind = 1; kind < KINDS; kind++) {
+            for (int kind = BRIDE; kind <= LOVELL; kind++) {
                 for (int grief = 0; grief <= MOST_GRIEF; grief++) {
                     for (int rain = 0; rain <= MOST_RAIN; rain++) {
-                        takeIn(wrongBy(kinds[kind], grief, rain, dusk), kind, grief, rain);
+                        takeIn(wrongBy(kind, grief, rain, dusk), kind, grief, rain);
                     }
                 }
             }
@@ -1310,15 +1334,15 @@ public final class ThirteenthBun {
             alone |= Integer.bitCount(wrong) == 1 ? wrong : 0;
         }
 
-        private int wrongBy(House stranger, int grief, int firstRain, int[] dusk) {
+        private int wrongBy(int kind, int grief, int firstRain, int[] dusk) {
             int rain = firstRain;
             int tray = FIRST_TRAY;
             int wrong = wrongBehind(0, tray, rain);
             for (int night = 0; night < NIGHTS - 1; night++) {
                 rain = rainBehind(rain, dusk[night]);
-                int asks = stranger.asks(0, night);
-                if (night % 2 == 0 && tray >= asks) {
-                    tray += stranger.draws(grief, rain, night) < 6 ? 1 - asks : -asks;
+                int asked = asks(kind, 0, night);
+                if (night % 2 == 0 && tray >= asked) {
+                    tray -= draws(kind, grief, rain, night) < 6 ? asked - 1 : asked;
                 }
                 tray = trayBehind(tray, rain);
                 wrong |= wrongBehind(night + 1, tray, rain);
@@ -1421,22 +1445,12 @@ public final class ThirteenthBun {
 
     /** A HOUSE as a thing: what its KIND does. One object serves all of a KIND, and becomes the one that acts. */
     private static class House {
-        static final int ASKED = 12;
-
         int number;
         int lane;
         final int[] bodies = new int[MOST_BODIES];
         int bodyCount;
         // Set when something was to be parted by 0: nothing begins from then on.
         boolean isParted;
-
-        int asks(int ofNumber, int night) {
-            return ASKED;
-        }
-
-        int draws(int grief, int rain, int night) {
-            return grief + rain;
-        }
 
         final void become(int newNumber, int newLane) {
             number = newNumber;
@@ -1480,14 +1494,6 @@ public final class ThirteenthBun {
     }
 
     private static final class Bride extends House {
-        int asks(int ofNumber, int night) {
-            return ASKED + 1;
-        }
-
-        int draws(int grief, int rain, int night) {
-            return rain;
-        }
-
         int knocks(int x) {
             begin(20);
             return super.knocks(x) + 13;
@@ -1495,14 +1501,6 @@ public final class ThirteenthBun {
     }
 
     private static class Sad extends House {
-        int asks(int ofNumber, int night) {
-            return ASKED / 2;
-        }
-
-        int draws(int grief, int rain, int night) {
-            return 2 * grief + rain;
-        }
-
         int waits(int x) {
             begin(30);
             return super.waits(x - lane);
@@ -1510,14 +1508,6 @@ public final class ThirteenthBun {
     }
 
     private static final class Trouble extends Sad {
-        int asks(int ofNumber, int night) {
-            return super.asks(ofNumber, night) + ofNumber;
-        }
-
-        int draws(int grief, int rain, int night) {
-            return super.draws(grief, rain, night) + 3;
-        }
-
         int knocks(int x) {
             begin(50);
             return super.knocks(x) * 2;
@@ -1531,14 +1521,6 @@ public final class ThirteenthBun {
     }
 
     private static class Farm extends House {
-        int asks(int ofNumber, int night) {
-            return 2 * ASKED;
-        }
-
-        int draws(int grief, int rain, int night) {
-            return Math.max(grief, rain);
-        }
-
         int counts(int x) {
             begin(40);
             return super.counts(x) - 1;
@@ -1546,14 +1528,6 @@ public final class ThirteenthBun {
     }
 
     private static final class Lovell extends Farm {
-        int asks(int ofNumber, int night) {
-            return super.asks(ofNumber, night) - (night % 2 == 0 ? 9 : 0);
-        }
-
-        int draws(int grief, int rain, int night) {
-            return night % 3 == 0 ? 0 : super.draws(grief, rain, night);
-        }
-
         int waits(int x) {
             begin(60);
             return super.waits(x) ^ 12;

@@ -6,6 +6,7 @@ public final class LotsTest {
         storiesByHand();
         storiesByRain();
         liar();
+        onlyOneFits();
         seed();
         lot();
         times();
@@ -155,6 +156,21 @@ public final class LotsTest {
         x.forget();
         x.report(0, 0, 0, 0);
         due("34 the only one", x.liar(), 0);
+    }
+
+    /** RAIN 1, 1, 3, 3, 5: a sad HOUSE without GRIEF is the only one that gives bread back in all of NIGHTS 0, 2, 4. */
+    private static void onlyOneFits() {
+        ThirteenthBun x = new ThirteenthBun();
+        for (int night = 0; night < 16; night++) {
+            x.dusk(night, night == 1 || night == 3 ? 8 : 3);
+        }
+        x.report(0, 1, 1, 1);
+        x.report(5, 0, 64, 64);
+        due("33 only one fits", x.stories(0), 1);
+        due("33 only one fits", x.stories(1), 2);
+        due("33 only one fits", x.stories(2), 0);
+        due("33 only one fits", x.stories(3), 1);
+        due("34 only one fits", x.liar(), ThirteenthBun.NONE);
     }
 
     private static void seed() {

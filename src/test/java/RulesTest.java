@@ -134,6 +134,12 @@ public final class RulesTest {
         fault("house if ((1=1)", 15);
         fault("house if (1=1 or", 16);
         fault("house if (", 10);
+        fault("housez give;", 0);
+        fault("zhouse give;", 0);
+        fault("house{give;", 5);
+        fault("house`give;", 5);
+        fault("house if 1/1=1 give;", 10);
+        fault("house if 1:1=1 give;", 10);
         String eight = "";
         for (int i = 0; i < 8; i++) {
             eight += "farm give;";
@@ -274,6 +280,13 @@ public final class RulesTest {
     }
 
     private static void longTexts() {
+        // The tape is full to the last byte.
+        fault(";".repeat(200), 0);
+        fault("house if " + "(".repeat(191), 12);
+        fault("sad" + " ".repeat(192) + "house", 195);
+        fault("sad give" + " ".repeat(187) + ";farm", 200);
+        fault("sad if 1=" + " ".repeat(187) + "1234", 200);
+        right("sad" + " ".repeat(192) + "give;", 1);
         // As many steps as 200 bytes can tell: it holds by its last part alone.
         StringBuilder s = new StringBuilder("house if 1=2");
         while (s.length() < 181) {
