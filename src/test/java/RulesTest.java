@@ -134,6 +134,12 @@ public final class RulesTest {
         fault("house if ((1=1)", 15);
         fault("house if (1=1 or", 16);
         fault("house if (", 10);
+        fault("0", 0);
+        fault("house give;0", 11);
+        fault("house if house=1 give;", 9);
+        fault("house if bride=1 give;", 9);
+        fault("house if 1=lovell give;", 11);
+        fault("house if 1=give give;", 11);
         fault("housez give;", 0);
         fault("zhouse give;", 0);
         fault("house{give;", 5);
