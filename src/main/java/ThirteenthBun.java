@@ -1107,7 +1107,8 @@ public final class ThirteenthBun {
         static final int WORD = 10000, WORD_GIVE = WORD + 6, WORD_IF = WORD + 9, WORD_OR = WORD + 10;
         static final int WORD_AND = WORD + 11, WORD_NOT = WORD + 12, WORD_NIGHT = WORD + 13;
         static final int BYTE = 20000, SEMICOLON = BYTE + ';', OPEN = BYTE + '(', CLOSE = BYTE + ')';
-        static final int LESS = BYTE + '<', SAME = BYTE + '=', MORE = BYTE + '>';
+        // The bytes of <, =, > follow one another, as the steps for them do.
+        static final int LESS = BYTE + '<', MORE = BYTE + '>';
         static final int UNKNOWN = 30000, END = 30001;
         static final int BLANK = 0, LETTER = 1, DIGIT = 2, OTHER = 3;
 

@@ -103,8 +103,6 @@ public final class PlansTest {
     /** All PLANS of n by wouldBe(), each written on a SHEET: WORTH of the best, how many, the first. */
     private static void byCounting() {
         for (int n = 0; n <= 4; n++) {
-            ThirteenthBun x = mixed();
-            x.sheet(0, 0, 4);
             int most = -1;
             int ways = 0;
             int first = 0;
@@ -113,10 +111,12 @@ public final class PlansTest {
                 count *= 4;
             }
             for (int code = 0; code < count; code++) {
+                ThirteenthBun planned = mixed();
+                planned.sheet(0, 0, 4);
                 for (int i = 0; i < n; i++) {
-                    x.write(0, i, code >> 2 * (n - 1 - i) & 3);
+                    planned.write(0, i, code >> 2 * (n - 1 - i) & 3);
                 }
-                int worth = x.wouldBe(0, 0, n);
+                int worth = planned.wouldBe(0, 0, n);
                 if (worth > most) {
                     most = worth;
                     ways = 0;
@@ -124,6 +124,7 @@ public final class PlansTest {
                 }
                 ways += worth == most ? 1 : 0;
             }
+            ThirteenthBun x = mixed();
             due("24 best of " + n, x.best(n), most);
             due("26 ways of " + n, x.ways(n), ways);
             for (int i = 0; i < n; i++) {
