@@ -1,5 +1,9 @@
 /** Boundary cases of promises 42 to 53: SHEETS, SHELVES, things with ACTS, THE TRACE, what is kept. */
 final class EdgesOfHost extends Edge {
+    interface Items {
+        long of(ThirteenthBun x, int sheet, int i, int n);
+    }
+
     private static final int NOTHING = -11, OUTSIDE = -12, OTHER = -13, BELOW_ZERO = -14, PARTED = -15;
     private static final int[] FAR = {-1, Integer.MIN_VALUE, Integer.MAX_VALUE};
 
@@ -163,24 +167,37 @@ final class EdgesOfHost extends Edge {
         return x;
     }
 
+    private static ThirteenthBun fourSheets() {
+        ThirteenthBun x = Villages.sad();
+        for (int sheet = 0; sheet < 4; sheet++) {
+            x.sheet(sheet, Villages.BYTES, 1);
+            x.write(sheet, 0, 1);
+        }
+        return x;
+    }
+
+    /** What goAll() and wouldBe() refuse alike. */
+    private static void refusesItems(String name, Items items) {
+        takes(0, 20, name + "(0, 0, n) of 20", () -> acts(16, new int[20]), (x, v) -> items.of(x, 0, 0, v));
+        takes(0, 3, name + "(sheet, 0, 1)", EdgesOfHost::fourSheets, (x, v) -> items.of(x, v, 0, 1));
+        for (int s = 1; s <= 4; s++) {
+            int sort = s;
+            refused(OTHER, name + "(0, 0, n) of sort " + sort, () -> row(sort, 5), (x, v) -> items.of(x, 0, 0, v), 0, 1, 20);
+            refused(OTHER, name + "(0, i, 1) of sort " + sort, () -> row(sort, 5), (x, v) -> items.of(x, 0, v, 1), -1, 5);
+        }
+        refused(NOTHING, name + "(3, 0, n), missing", Villages::full, (x, v) -> items.of(x, 3, 0, v), 0, 1, 20);
+        refused(NOTHING, name + "(3, i, 1), missing", Villages::full, (x, v) -> items.of(x, 3, v, 1), FAR);
+        refused(OUTSIDE, name + "(0, i, 1) of 6", Villages::full, (x, v) -> items.of(x, 0, v, 1), 6, 40);
+        refused(OUTSIDE, name + "(0, i, 1) of 6", Villages::full, (x, v) -> items.of(x, 0, v, 1), FAR);
+        refused(OUTSIDE, name + "(0, i, 20) of 6", Villages::full, (x, v) -> items.of(x, 0, v, 20), FAR);
+        refused(OUTSIDE, name + "(0, 0, 1) of none", () -> row(0, 0), x -> items.of(x, 0, 0, 1));
+    }
+
     private static void goAll() {
         says(45, "n (0 to 20) items of a SHEET taken for bytes, from item i on, are ACTS, each followed by a NIGHT (what is none, or"
             + " when it is OVER, is left out): what these NIGHTS were WORTH together. BAD: no such SHEET, n; -13; -11; -12: what"
             + " stood ahead was done.");
-        takes(0, 20, "goAll(0, 0, n) of 20", () -> acts(16, new int[20]), (x, v) -> x.goAll(0, 0, v));
-        refused(ThirteenthBun.BAD, "goAll(sheet, 0, 1)", Villages::full, (x, v) -> x.goAll(v, 0, 1), -1, 4, Integer.MIN_VALUE,
-            Integer.MAX_VALUE);
-        for (int s = 1; s <= 4; s++) {
-            int sort = s;
-            refused(OTHER, "goAll(0, 0, n) of sort " + sort, () -> row(sort, 5), (x, v) -> x.goAll(0, 0, v), 0, 1, 20);
-            refused(OTHER, "goAll(0, i, 1) of sort " + sort, () -> row(sort, 5), (x, v) -> x.goAll(0, v, 1), -1, 5);
-        }
-        refused(NOTHING, "goAll(3, 0, n), missing", Villages::full, (x, v) -> x.goAll(3, 0, v), 0, 1, 20);
-        refused(NOTHING, "goAll(3, i, 1), missing", Villages::full, (x, v) -> x.goAll(3, v, 1), FAR);
-        refused(OUTSIDE, "goAll(0, i, 1) of 6", Villages::full, (x, v) -> x.goAll(0, v, 1), -1, 6, 40, Integer.MIN_VALUE,
-            Integer.MAX_VALUE);
-        refused(OUTSIDE, "goAll(0, i, 20) of 6", Villages::full, (x, v) -> x.goAll(0, v, 20), FAR);
-        refused(OUTSIDE, "goAll(0, 0, 1) of none", () -> row(0, 0), x -> x.goAll(0, 0, 1));
+        refusesItems("goAll", ThirteenthBun::goAll);
         is("goAll(0, 0, 0) of none", row(0, 0).goAll(0, 0, 0), 0);
         ThirteenthBun y = Villages.full();
         is("goAll(0, 5, 0)", y.goAll(0, 5, 0), 0);
@@ -213,20 +230,7 @@ final class EdgesOfHost extends Edge {
     private static void wouldBe() {
         says(46, "n (0 to 20) items likewise: what they would be WORTH. BAD: no such SHEET, n; -13; -11; then, by items, -12; STATE: one"
             + " is no ACT, or it would be OVER ahead of it.");
-        takes(0, 20, "wouldBe(0, 0, n) of 20", () -> acts(16, new int[20]), (x, v) -> x.wouldBe(0, 0, v));
-        refused(ThirteenthBun.BAD, "wouldBe(sheet, 0, 1)", Villages::full, (x, v) -> x.wouldBe(v, 0, 1), -1, 4, Integer.MIN_VALUE,
-            Integer.MAX_VALUE);
-        for (int s = 1; s <= 4; s++) {
-            int sort = s;
-            refused(OTHER, "wouldBe(0, 0, n) of sort " + sort, () -> row(sort, 5), (x, v) -> x.wouldBe(0, 0, v), 0, 1, 20);
-            refused(OTHER, "wouldBe(0, i, 1) of sort " + sort, () -> row(sort, 5), (x, v) -> x.wouldBe(0, v, 1), -1, 5);
-        }
-        refused(NOTHING, "wouldBe(3, 0, n), missing", Villages::full, (x, v) -> x.wouldBe(3, 0, v), 0, 1, 20);
-        refused(NOTHING, "wouldBe(3, i, 1), missing", Villages::full, (x, v) -> x.wouldBe(3, v, 1), FAR);
-        refused(OUTSIDE, "wouldBe(0, i, 1) of 6", Villages::full, (x, v) -> x.wouldBe(0, v, 1), -1, 6, 40, Integer.MIN_VALUE,
-            Integer.MAX_VALUE);
-        refused(OUTSIDE, "wouldBe(0, i, 20) of 6", Villages::full, (x, v) -> x.wouldBe(0, v, 20), FAR);
-        refused(OUTSIDE, "wouldBe(0, 0, 1) of none", () -> row(0, 0), x -> x.wouldBe(0, 0, 1));
+        refusesItems("wouldBe", ThirteenthBun::wouldBe);
         asked(0, "wouldBe(0, 5, 0)", Villages::full, x -> x.wouldBe(0, 5, 0));
         asked(0, "wouldBe(0, 0, 0), over", Villages::fullAndOver, x -> x.wouldBe(0, 0, 0));
         says(46, "then, by items, -12; STATE: one is no ACT, or it would be OVER ahead of it.");
