@@ -111,6 +111,11 @@ final class EdgesOfRules extends Edge {
         is("many(1)", x.many(1), 0);
         is("its will", x.houseOf(0, 8), 0);
         is("eight again", Check.tell(x, EIGHT), 8);
+        String longest = "sad if 1=2" + "or1=2".repeat(35) + "or1=1 hold;";
+        for (int turn = 0; turn < 5; turn++) {
+            is("a long one in place of all", Check.tell(x, longest), 1);
+            is("its will", x.houseOf(0, 8), 1);
+        }
     }
 
     private static void numbers() {
